@@ -1,3 +1,8 @@
+/**
+ * Runs workflows by what is written of them. Going on and replaying are one and the same walk through a program:
+ * a history knows how many of its entries were passed, and only where none is left is anything written, or a task
+ * made. So a replay can't come to do something else than the first walk did.
+ */
 public final class FlowEngine {
     public static final int REFUSED = -1;
     public static final int NONE = -2;
@@ -573,6 +578,9 @@ public final class FlowEngine {
         }
 
         void drop(int k) {
+            if (k < 0 || k >= size) {
+                return;
+            }
             for (int i = k; i + 1 < size; i++) {
                 numbers[i] = numbers[i + 1];
                 values[i] = values[i + 1];

@@ -3,6 +3,7 @@ public final class AnswerTest {
     public static void main(String[] args) {
         wrongNumbers();
         good();
+        gone();
         lost();
         undoing();
         undoNoRoom();
@@ -43,6 +44,18 @@ public final class AnswerTest {
         Check.history("good", e, 0, Check.in(Check.START, 0, 4),
                 Check.in(Check.WANTED, 3, 0), Check.in(Check.RESULT, 3, -6),
                 Check.in(Check.WANTED, 1, 4), Check.in(Check.RESULT, 1, 8));
+    }
+
+    private static void gone() {
+        FlowEngine e = Check.with(Check.in(Check.CALL, 3, 2), Check.in(Check.AWAIT, 0, 0));
+        e.start(0, 4);
+        e.take();
+        Check.due("goes on to AWAIT", e.answer(0, true, 1), Check.AWAITS);
+        Check.due("the task is gone", e.flow(0, 8), 0);
+        Check.due("and not out", e.flow(0, 9), 0);
+        Check.due("a second answer", e.answer(0, true, 1), Check.NONE);
+        e.tick(5);
+        Check.due("it does not come back", e.line(-1), 0);
     }
 
     private static void failThrice(FlowEngine e, int w, int before, int behind) {

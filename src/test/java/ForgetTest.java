@@ -69,6 +69,12 @@ public final class ForgetTest {
             Check.due("not failed", e.count(8), 0);
             Check.due("no outcome", e.flow(0, 5), 0);
         }
+        FlowEngine g = Check.with(Check.in(Check.CALL, 1, 1), Check.in(Check.AWAIT, 0, 0));
+        g.start(0, 1);
+        g.take();
+        g.change(0, 0, Check.SLEEP, 0, 0);
+        Check.due("SLEEPS 1 0 is not WANTED 1 0", g.answer(0, true, 5), Check.BROKEN);
+
         FlowEngine f = Check.with(Check.in(Check.SLEEP, 0, 0));
         f.start(0, 3);
         f.change(0, 0, Check.SET, 0, 4);
@@ -95,6 +101,16 @@ public final class ForgetTest {
         f.signal(0, 0, 0);
         Check.due("not by a kept one as long as entries are left", f.flow(0, 0), Check.BROKEN);
         Check.due("which is kept still", f.flow(0, 6), 1);
+
+        FlowEngine g = Check.with(Check.in(Check.AWAIT, 0, 0), Check.in(Check.CALL, 1, 1));
+        g.start(0, 0);
+        g.signal(0, 0, 5);
+        g.signal(0, 0, 6);
+        g.take();
+        g.forget(0);
+        Check.due("what is written comes before what is kept", g.answer(0, true, 3), Check.DONE);
+        Check.due("value of the written one", g.flow(0, 5), 5);
+        Check.due("the other is kept still", g.flow(0, 6), 1);
     }
 
     private static void endedWithEntriesLeft() {
