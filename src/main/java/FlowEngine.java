@@ -1,7 +1,7 @@
 /**
  * Runs workflows by what is written of them. Going on and replaying are one and the same walk through a program:
  * a history knows how many of its entries were passed, and only where none is left is anything written, or a task
- * made. So a replay can't come to do something else than the first walk did.
+ * made. So a replay of a program that was not changed can't do something else than the first walk did.
  */
 public final class FlowEngine {
     public static final int REFUSED = -1;
