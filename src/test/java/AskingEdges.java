@@ -35,8 +35,8 @@ final class AskingEdges extends Check {
     }
 
     private static void flowState() {
-        says("`int flow(int w, int what)`: Of WORKFLOW w what 0: its STATE (0 if it is not there; that which it had, if "
-                + "it is FORGOTTEN);");
+        says("`int flow(int w, int what)`: Of WORKFLOW w what 0: its STATE (0 if it is not there; that which it had, "
+                + "if it is FORGOTTEN);");
         FlowEngine e = engine("AWAIT 0 0");
         for (int w = 0; w <= 5; w++) {
             due("not there", e.flow(w, 0), 0);
@@ -106,8 +106,8 @@ final class AskingEdges extends Check {
 
     private static void flowNoted() {
         says("4: how many ACTIVITIES are noted by UNDO and not WANTED yet (NONE likewise);");
-        FlowEngine e = engine("AWAIT 0 0", "UNDO 0 0", "AWAIT 0 0", "UNDO 0 0", "UNDO 0 0", "UNDO 0 0", "UNDO 0 0", "UNDO 0 0",
-                "AWAIT 0 0", "FAIL");
+        FlowEngine e = engine("AWAIT 0 0", "UNDO 0 0", "AWAIT 0 0", "UNDO 0 0", "UNDO 0 0", "UNDO 0 0", "UNDO 0 0",
+                "UNDO 0 0", "AWAIT 0 0", "FAIL");
         e.start(0, 0);
         int[] noted = {0, 1, 6, 5};
         for (int n : noted) {
@@ -243,7 +243,8 @@ final class AskingEdges extends Check {
         String[] last = {"END 0", "FAIL", "JUMP 6"};
         int[] values = {LEAST, -1, 1, MOST};
         for (String words : last) {
-            FlowEngine e = engine("SET 0 " + LEAST, "SET 1 -1", "SET 2 1", "SET 3 " + MOST, "AWAIT 0 2", "SET 2 1", words);
+            FlowEngine e = engine("SET 0 " + LEAST, "SET 1 -1", "SET 2 1", "SET 3 " + MOST, "AWAIT 0 2", "SET 2 1",
+                    words);
             e.start(0, 5);
             variables(e, 0, values);
             e.forget(0);

@@ -201,8 +201,8 @@ final class ReplayEdges extends Check {
             due("1 and 60 replayed", e.count(4), 61);
         }
         // A kept signal is taken without waiting, but its entry makes it go on for 60 more in a replay.
-        FlowEngine f = engine("AWAIT 0 0", "AWAIT 1 0", "SET 1 -1", "ZERO 0 6", "ADD 0 1", "JUMP 3", "SET 2 1", "SET 2 2",
-                "AWAIT 2 3", "AWAIT 3 3", "JUMP 8");
+        FlowEngine f = engine("AWAIT 0 0", "AWAIT 1 0", "SET 1 -1", "ZERO 0 6", "ADD 0 1", "JUMP 3", "SET 2 1",
+                "SET 2 2", "AWAIT 2 3", "AWAIT 3 3", "JUMP 8");
         f.start(0, 0);
         f.signal(0, 1, 18);
         f.signal(0, 0, 18);

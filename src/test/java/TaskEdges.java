@@ -59,7 +59,8 @@ final class TaskEdges extends Check {
     }
 
     private static void takesTheFirst() {
-        says("A worker takes the first TASK of the LINE that is not before its time; it is OUT then, TRIES are 1 more.");
+        says("A worker takes the first TASK of the LINE that is not before its time; it is OUT then, "
+                + "TRIES are 1 more.");
         FlowEngine e = engine("CALL 0 0");
         e.start(0, 0);
         due("take", e.take(), 0);

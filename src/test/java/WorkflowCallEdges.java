@@ -47,8 +47,8 @@ final class WorkflowCallEdges extends Check {
     }
 
     private static void signalWritten() {
-        says("If it AWAITS this SIGNAL then, it is written, and the WORKFLOW goes on (or is BROKEN, if there is no room "
-                + "for the ENTRY): 1;");
+        says("If it AWAITS this SIGNAL then, it is written, and the WORKFLOW goes on (or is BROKEN, if there is no "
+                + "room for the ENTRY): 1;");
         FlowEngine e = engine("AWAIT 2 1", "JUMP 0");
         e.start(0, 0);
         for (int i = 1; i <= 19; i++) {
